@@ -1,0 +1,143 @@
+import java.io.IOException;
+import java.lang.reflect.Method;
+import java.lang.reflect.Modifier;
+import java.nio.file.Files;
+import java.nio.file.Path;
+import java.util.ArrayList;
+import java.util.Arrays;
+import java.util.List;
+import java.util.TreeSet;
+import java.util.regex.Matcher;
+import java.util.regex.Pattern;
+
+/** The class shows the document's face, and nothing else; the source keeps to LANGUAGE.md where a text tells it. */
+public final class FaceTests {
+    private static final String[] FACE = {
+        "int board(int) IllegalArgumentException",
+        "boolean rule(char,boolean) IllegalArgumentException",
+        "int rules()",
+        "int setRules(int) IllegalArgumentException",
+        "char put(int,char) IndexOutOfBoundsException IllegalArgumentException UnsupportedOperationException",
+        "boolean begin(boolean)",
+        "char at(int) IndexOutOfBoundsException",
+        "int king()",
+        "int count(char) IllegalArgumentException",
+        "boolean isTurn()",
+        "boolean isHostile(int,char) IndexOutOfBoundsException IllegalArgumentException",
+        "boolean surrounds()",
+        "boolean canMove(int,int) IndexOutOfBoundsException",
+        "int countMoves()",
+        "int moveAt(int) NoSuchElementException",
+        "int move(int,int) IndexOutOfBoundsException IllegalStateException UnsupportedOperationException",
+        "char winner()",
+        "int countMade()",
+        "int repeats()",
+        "int undo() NoSuchElementException",
+        "int worth()",
+        "int search(int) IllegalArgumentException",
+        "int best(int) IllegalArgumentException IllegalStateException",
+        "int play(int) IllegalArgumentException",
+        "int seed(int) IllegalArgumentException",
+        "int countPositions() ArithmeticException",
+        "char solve() ArithmeticException",
+        "int kept(char) IllegalArgumentException",
+        "int balanceBits() ArithmeticException",
+        "char know(char,char) IllegalArgumentException",
+        "int tie(char,boolean,char,boolean) IllegalArgumentException IllegalStateException",
+        "int untie()",
+        "int countAgreeing()",
+        "int agreeing(int) NoSuchElementException",
+        "char find(int,char) IndexOutOfBoundsException IllegalArgumentException",
+        "int complete(char) IllegalArgumentException UnsupportedOperationException",
+        "char found(int) IndexOutOfBoundsException",
+        "int record(int,int) IllegalArgumentException IllegalStateException",
+        "int parent(int) IndexOutOfBoundsException",
+        "int unlike(int,int) IndexOutOfBoundsException",
+        "int middle(int,int,int) IndexOutOfBoundsException",
+        "double meanOn() ArithmeticException",
+        "long checksum()",
+        "boolean isSound()",
+    };
+
+    private static final String[] FORBIDDEN = {
+        "\\bcatch\\b", "\\btry\\b", "\\bfinally\\b", "->", "::", "\\bsynchronized\\b", "\\bassert\\b",
+        "\\bSystem\\.(?!arraycopy)", "\\bMath\\.(?!min|max|abs|floorDiv|floorMod)", "Exact\\b", "\\bFloat\\.",
+        "\\bDouble\\.", "\\bThread\\b", "\\bRandom\\b", "\\.equals\\(", "\\.hashCode\\(", "\\.toString\\(",
+        "MAX_VALUE", "MIN_VALUE", "\\bpackage\\b", "\\bstrictfp\\b", "\\bstatic\\s*\\{",
+        "\\bimport (?!java\\.util\\.(Arrays|NoSuchElementException);)",
+        "static (?!final)(\\w+(\\[\\])?) \\w+( =|;)",
+        "static final (byte|short|float|double) ",
+    };
+
+    private static final Checks checks = new Checks();
+
+    public static void main(String[] args) throws IOException {
+        testMethods();
+        testNothingElseIsSeen();
+        testSource();
+        checks.end();
+    }
+
+    private static void testMethods() {
+        List<String> got = new ArrayList<>();
+        for (Method method : SurroundedKing.class.getDeclaredMethods()) {
+            if (!Modifier.isPrivate(method.getModifiers()) && !method.isSynthetic()) {
+                got.add(told(method));
+            }
+        }
+        checks.same("methods", new TreeSet<>(got).toString(), new TreeSet<>(Arrays.asList(FACE)).toString());
+        checks.same("class", Modifier.toString(SurroundedKing.class.getModifiers()), "public final");
+    }
+
+    private static String told(Method method) {
+        StringBuilder text = new StringBuilder();
+        text.append(method.getReturnType().getSimpleName()).append(' ').append(method.getName()).append('(');
+        String comma = "";
+        for (Class<?> type : method.getParameterTypes()) {
+            text.append(comma).append(type.getSimpleName());
+            comma = ",";
+        }
+        text.append(')');
+        for (Class<?> type : method.getExceptionTypes()) {
+            text.append(' ').append(type.getSimpleName());
+        }
+        return text.toString();
+    }
+
+    private static void testNothingElseIsSeen() {
+        for (java.lang.reflect.Field field : SurroundedKing.class.getDeclaredFields()) {
+            checks.same("private " + field.getName(), Modifier.isPrivate(field.getModifiers()), true);
+        }
+        checks.same("constructors", SurroundedKing.class.getDeclaredConstructors().length, 1);
+        TreeSet<String> names = new TreeSet<>();
+        for (String line : FACE) {
+            names.add(line.replaceAll("^\\w+ (\\w+)\\(.*", "$1"));
+        }
+        for (Class<?> inside : SurroundedKing.class.getDeclaredClasses()) {
+            checks.same("static " + inside, Modifier.isStatic(inside.getModifiers()), true);
+            checks.same("not public " + inside, Modifier.isPublic(inside.getModifiers()), false);
+            for (Method method : inside.getDeclaredMethods()) {
+                checks.same("own name " + method.getName(), names.contains(method.getName()), false);
+            }
+        }
+        for (Method method : SurroundedKing.class.getDeclaredMethods()) {
+            boolean isPrivate = Modifier.isPrivate(method.getModifiers());
+            checks.same("own name " + method.getName(), isPrivate && names.contains(method.getName()), false);
+        }
+    }
+
+    private static void testSource() throws IOException {
+        String source = Files.readString(Path.of("src/main/java/SurroundedKing.java"));
+        String code = source.replaceAll("(?s)/\\*.*?\\*/", "").replaceAll("//[^\n]*", "");
+        String bare = code.replaceAll("\"[^\"\n]*\"", "\"\"");
+        for (String pattern : FORBIDDEN) {
+            Matcher matcher = Pattern.compile(pattern).matcher(bare);
+            checks.same("none of " + pattern, matcher.find() ? matcher.group() : "none", "none");
+        }
+        for (int i = 0; i < source.length(); i++) {
+            if (source.charAt(i) > 126) {
+                checks.same("sign at " + i, source.charAt(i), "a plain one");
+            }
+        }
+    }
+}
