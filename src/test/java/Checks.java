@@ -1,3 +1,5 @@
+import java.util.concurrent.Callable;
+
 /** Counts answers that are not as due, and tells them. */
 final class Checks {
     private static final int MOST_TOLD = 40;
@@ -12,6 +14,88 @@ final class Checks {
                 System.out.println(call + " answered " + got + ", due is " + due);
             }
         }
+    }
+
+    /** The call throws an exception of just this class, and nothing that can be seen changes. */
+    void thrown(SurroundedKing x, String call, Class<? extends Exception> due, Callable<?> action) {
+        String before = stateOf(x);
+        String got;
+        try {
+            got = String.valueOf(action.call());
+        } catch (Exception e) {
+            got = e.getClass().getName();
+        }
+        same(call, got, due.getName());
+        same(call + " changes nothing", stateOf(x), before);
+    }
+
+    /** All that can be asked without telling anything, as one text. */
+    static String stateOf(SurroundedKing x) {
+        StringBuilder text = new StringBuilder();
+        text.append(x.rules()).append(' ').append(x.king()).append(' ').append(x.isTurn()).append(' ');
+        text.append(x.surrounds()).append(' ').append(x.winner()).append(' ').append(x.countMade()).append(' ');
+        text.append(x.repeats()).append(' ').append(x.worth()).append(' ').append(x.checksum()).append(' ');
+        text.append(x.kept('g')).append(x.kept('h')).append(x.kept('=')).append(' ');
+        for (int i = 0; i < x.countMoves(); i++) {
+            text.append(x.moveAt(i)).append(' ');
+        }
+        for (int i = 0; i < x.countAgreeing(); i++) {
+            text.append(x.agreeing(i)).append(' ');
+        }
+        for (int place = 0; has(x, place); place++) {
+            text.append(x.at(place)).append(x.found(place));
+        }
+        for (int record = 0; hasRecord(x, record); record++) {
+            text.append(' ').append(x.middle(record, record, record)).append('<').append(x.parent(record));
+        }
+        return text.toString();
+    }
+
+    private static boolean has(SurroundedKing x, int place) {
+        try {
+            x.at(place);
+            return true;
+        } catch (IndexOutOfBoundsException e) {
+            return false;
+        }
+    }
+
+    private static boolean hasRecord(SurroundedKing x, int record) {
+        try {
+            x.parent(record);
+            return true;
+        } catch (IndexOutOfBoundsException e) {
+            return false;
+        }
+    }
+
+    /** A new object with men told row by row, with the king among them, and with rules and the turn. */
+    static SurroundedKing boardOf(String rules, boolean isHunters, String... rows) {
+        SurroundedKing x = new SurroundedKing();
+        x.board(rows.length);
+        String men = String.join("", rows);
+        if (x.king() != men.indexOf('k')) {
+            x.put(men.indexOf('k'), 'k');
+        }
+        for (int place = 0; place < men.length(); place++) {
+            if (men.charAt(place) != 'k' && men.charAt(place) != '-') {
+                x.put(place, men.charAt(place));
+            }
+        }
+        for (char rule : rules.toCharArray()) {
+            x.rule(rule, true);
+        }
+        x.begin(isHunters);
+        return x;
+    }
+
+    /** The men of a board, row by row. */
+    static String menOf(SurroundedKing x) {
+        StringBuilder men = new StringBuilder();
+        for (int place = 0; has(x, place); place++) {
+            men.append(x.at(place));
+        }
+        return men.toString();
     }
 
     boolean isClean() {
