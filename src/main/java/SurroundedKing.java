@@ -52,7 +52,7 @@ public final class SurroundedKing {
     private final Solver solver;
     private final Archive archive;
     private final Gaps gaps;
-    private final Relic relic;
+    private final Marks marks;
     private final Family family;
     private int z;
 
@@ -66,7 +66,7 @@ public final class SurroundedKing {
         solver = new Solver(law);
         archive = new Archive();
         gaps = new Gaps();
-        relic = new Relic(ground);
+        marks = new Marks();
         family = new Family();
         z = 1;
         takeBoard(FIRST_SIZE);
@@ -301,8 +301,8 @@ public final class SurroundedKing {
         if (!isMark(known)) {
             throw new IllegalArgumentException("no such knowledge");
         }
-        char before = gaps.knownOf(bit);
-        gaps.learn(bit, known);
+        char before = gaps.known.markAt(bit);
+        gaps.known.tell(bit, known);
         return before;
     }
 
@@ -343,8 +343,8 @@ public final class SurroundedKing {
         if (!isMark(mark)) {
             throw new IllegalArgumentException("no such mark");
         }
-        char before = relic.markAt(1L << place);
-        relic.tell(1L << place, mark);
+        char before = marks.markAt(1L << place);
+        marks.tell(1L << place, mark);
         return before;
     }
 
@@ -352,15 +352,15 @@ public final class SurroundedKing {
         if (symmetry != 'h' && symmetry != 'v' && symmetry != 'd' && symmetry != 'r') {
             throw new IllegalArgumentException("no such symmetry");
         }
-        if (!relic.fill(symmetry)) {
+        if (!marks.fill(ground, symmetry)) {
             throw new UnsupportedOperationException("a place and its image differ");
         }
-        return relic.broken();
+        return ground.places - marks.countTold();
     }
 
     public char found(int place) throws IndexOutOfBoundsException {
         checkPlace(place);
-        return relic.markAt(1L << place);
+        return marks.markAt(1L << place);
     }
 
     public int record(int rules, int year) throws IllegalArgumentException, IllegalStateException {
@@ -422,7 +422,7 @@ public final class SurroundedKing {
     private void takeBoard(int size) {
         ground.lay(size);
         game.now.clear(ground.throne);
-        relic.clear();
+        marks.clear();
         game.start();
     }
 
@@ -617,6 +617,28 @@ public final class SurroundedKing {
                 next |= stepped(set, direction);
             }
             return next;
+        }
+
+        long imageOf(long set, char symmetry) {
+            long image = 0;
+            for (int row = 0; row < size; row++) {
+                for (int column = 0; column < size; column++) {
+                    if ((set & 1L << row * size + column) != 0) {
+                        image |= 1L << imageOfPlace(row, column, symmetry);
+                    }
+                }
+            }
+            return image;
+        }
+
+        private int imageOfPlace(int row, int column, char symmetry) {
+            int last = size - 1;
+            if (symmetry == 'd') {
+                return column * size + row;
+            }
+            int imageRow = symmetry == 'h' ? row : last - row;
+            int imageColumn = symmetry == 'v' ? column : last - column;
+            return imageRow * size + imageColumn;
         }
     }
 
@@ -1270,25 +1292,12 @@ public final class SurroundedKing {
     private static final class Gaps {
         private static final int MOST_TIES = 8;
 
-        private int toldRules;
-        private int onRules;
+        private final Marks known = new Marks();
         private final int[] tiedBits = new int[MOST_TIES];
         private final int[] tiedAsTold = new int[MOST_TIES];
         private final int[] otherBits = new int[MOST_TIES];
         private final int[] otherAsTold = new int[MOST_TIES];
         private int ties;
-
-        char knownOf(int bit) {
-            if ((toldRules & bit) == 0) {
-                return UNKNOWN;
-            }
-            return (onRules & bit) != 0 ? ON : OFF;
-        }
-
-        void learn(int bit, char known) {
-            toldRules = known == UNKNOWN ? toldRules & ~bit : toldRules | bit;
-            onRules = known == ON ? onRules | bit : onRules & ~bit;
-        }
 
         boolean isFull() {
             return ties >= MOST_TIES;
@@ -1306,7 +1315,7 @@ public final class SurroundedKing {
         }
 
         private boolean agrees(int ruleset) {
-            if ((ruleset & toldRules) != onRules) {
+            if (!known.allows(ruleset)) {
                 return false;
             }
             for (int i = 0; i < ties; i++) {
@@ -1350,70 +1359,46 @@ public final class SurroundedKing {
         }
     }
 
-    /** A find: a board whose places are marked, or broken. */
-    private static final class Relic {
-        private final Ground ground;
+    /** A set of bits, each of which is told to be on, or off, or is not told. */
+    private static final class Marks {
         private long told;
         private long ones;
-
-        Relic(Ground ground) {
-            this.ground = ground;
-        }
 
         void clear() {
             told = 0;
             ones = 0;
         }
 
-        char markAt(long spot) {
-            if ((told & spot) == 0) {
+        char markAt(long bit) {
+            if ((told & bit) == 0) {
                 return UNKNOWN;
             }
-            return (ones & spot) != 0 ? ON : OFF;
+            return (ones & bit) != 0 ? ON : OFF;
         }
 
-        void tell(long spot, char mark) {
-            told = mark == UNKNOWN ? told & ~spot : told | spot;
-            ones = mark == ON ? ones | spot : ones & ~spot;
+        void tell(long bit, char mark) {
+            told = mark == UNKNOWN ? told & ~bit : told | bit;
+            ones = mark == ON ? ones | bit : ones & ~bit;
         }
 
-        int broken() {
-            return ground.places - Long.bitCount(told);
+        int countTold() {
+            return Long.bitCount(told);
         }
 
-        /** Completes all broken places by their images; tells whether it can be. */
-        boolean fill(char symmetry) {
-            long toldImage = imageOf(told, symmetry);
-            long onesImage = imageOf(ones, symmetry);
+        boolean allows(long set) {
+            return (set & told) == ones;
+        }
+
+        /** Completes what is not told by the images on the ground; tells whether it can be. */
+        boolean fill(Ground ground, char symmetry) {
+            long toldImage = ground.imageOf(told, symmetry);
+            long onesImage = ground.imageOf(ones, symmetry);
             if (((ones ^ onesImage) & told & toldImage) != 0) {
                 return false;
             }
             ones |= onesImage;
             told |= toldImage;
             return true;
-        }
-
-        private long imageOf(long set, char symmetry) {
-            long image = 0;
-            for (int row = 0; row < ground.size; row++) {
-                for (int column = 0; column < ground.size; column++) {
-                    if ((set & 1L << row * ground.size + column) != 0) {
-                        image |= 1L << imageOfPlace(row, column, symmetry);
-                    }
-                }
-            }
-            return image;
-        }
-
-        private int imageOfPlace(int row, int column, char symmetry) {
-            int size = ground.size;
-            int last = size - 1;
-            if (symmetry == 'd') {
-                return column * size + row;
-            }
-            int imageRow = symmetry == 'h' ? row : last - row;
-            int imageColumn = symmetry == 'v' ? column : last - column;
-            return imageRow * size + imageColumn;
         }
     }
 
