@@ -2,26 +2,36 @@ import java.util.Random;
 
 /** Promises 27, 28 and 45 for many small positions, against the plain model. */
 public final class SolveTests {
+    /** Positions whose winner is found late: one look over all positions does not tell it. */
+    private static final String[] DEEP = {"h---kh---", "-h--k-h--", "--h-k--h-"};
+    private static final int[] DEEP_RULES = {158, 156, 20};
     private static final Checks checks = new Checks();
 
     public static void main(String[] args) {
         int positions = args.length > 0 ? Integer.parseInt(args[0]) : 1500;
         Random random = new Random(args.length > 1 ? Long.parseLong(args[1]) : 11);
+        for (int i = 0; i < DEEP.length; i++) {
+            solveOne(DEEP[i], DEEP_RULES[i], true);
+        }
         for (int i = 0; i < positions && checks.isClean(); i++) {
-            solveOne(random);
+            solveDrawn(random);
         }
         checks.end();
     }
 
     /** Rules by which neither side wins soon, so that solutions are deep, and some positions are nobody's. */
-    private static void solveOne(Random random) {
+    private static void solveDrawn(Random random) {
         int size = random.nextInt(8) == 0 ? 5 : 3;
         String men = drawnMen(random, size);
         int rules = random.nextInt(256);
         if (random.nextInt(4) > 0) {
             rules = (rules | 4 | 64) & ~1;
         }
-        boolean isHunters = random.nextBoolean();
+        solveOne(men, rules, random.nextBoolean());
+    }
+
+    private static void solveOne(String men, int rules, boolean isHunters) {
+        int size = men.length() == 9 ? 3 : 5;
         SurroundedKing own = new SurroundedKing();
         PlainKing plain = new PlainKing();
         own.board(size);
