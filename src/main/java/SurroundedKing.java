@@ -261,7 +261,7 @@ public final class SurroundedKing {
     }
 
     public int countPositions() throws ArithmeticException {
-        int reached = explored();
+        int reached = game.isSettled ? 1 : solver.explore(game.now);
         if (reached < 0) {
             throw new ArithmeticException("too many positions");
         }
@@ -269,10 +269,13 @@ public final class SurroundedKing {
     }
 
     public char solve() throws ArithmeticException {
-        if (explored() < 0) {
+        if (game.isSettled) {
+            return game.winner;
+        }
+        if (solver.explore(game.now) < 0) {
             throw new ArithmeticException("too many positions");
         }
-        return game.isSettled ? game.winner : solver.solution();
+        return solver.solution();
     }
 
     public int kept(char winner) throws IllegalArgumentException {
@@ -490,11 +493,6 @@ public final class SurroundedKing {
         listMoves();
         int moves = listed.length();
         return moves > 0 ? listed.codeAt(number % moves) : -1;
-    }
-
-    /** How many positions can come, -1 if too many; the solver knows them then, if the game is not settled. */
-    private int explored() {
-        return game.isSettled ? 1 : solver.explore(game.now);
     }
 
     private int countKept() {
