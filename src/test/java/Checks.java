@@ -1,10 +1,16 @@
 import java.util.concurrent.Callable;
+import java.util.function.Supplier;
 
 /** Counts answers that are not as due, and tells them. */
 final class Checks {
     private static final int MOST_TOLD = 40;
     private int made;
     private int wrong;
+
+    /** A call, to be made on an object that is told then. */
+    interface Call {
+        Object on(SurroundedKing x) throws Exception;
+    }
 
     void same(String call, Object got, Object due) {
         made++;
@@ -29,6 +35,53 @@ final class Checks {
         same(call + " changes nothing", stateOf(x), before);
     }
 
+    /**
+     * The call throws an exception of just this class, and behind it all that can be asked, taken back
+     * and told again is as with a like object that was not asked.
+     */
+    void refused(String call, Class<? extends Exception> due, Supplier<SurroundedKing> maker, Call action) {
+        SurroundedKing asked = maker.get();
+        SurroundedKing left = maker.get();
+        String got;
+        try {
+            got = String.valueOf(action.on(asked));
+        } catch (Exception e) {
+            got = e.getClass().getName();
+        }
+        same(call, got, due.getName());
+        same(call + " changes nothing", stateOf(asked), stateOf(left));
+        same(call + " changes nothing that comes out later", laterOf(asked), laterOf(left));
+    }
+
+    /** The call is answered as is due, on an object that is made for it. */
+    void allowed(String call, Supplier<SurroundedKing> maker, Call action, Object due) {
+        String got;
+        try {
+            got = String.valueOf(action.on(maker.get()));
+        } catch (Exception e) {
+            got = e.getClass().getName();
+        }
+        same(call, got, due);
+    }
+
+    /** What comes out only as something is told: all moves taken back, z, what is known, ties, games kept. */
+    private static String laterOf(SurroundedKing x) {
+        StringBuilder text = new StringBuilder();
+        while (x.countMade() > 0) {
+            text.append(x.undo()).append(x.checksum()).append(x.repeats()).append(x.isTurn()).append(x.winner());
+        }
+        text.append(" z ").append(x.seed(1)).append(" known ");
+        for (char rule : "ewftcpln".toCharArray()) {
+            text.append(x.know(rule, '?'));
+        }
+        text.append(" ties ").append(x.untie()).append(" all ").append(x.countAgreeing()).append(" kept ");
+        for (int size : new int[] {3, 5, 7}) {
+            x.board(size);
+            text.append(x.kept('g')).append(x.kept('h')).append(x.kept('='));
+        }
+        return text.toString();
+    }
+
     /** All that can be asked without telling anything, as one text. */
     static String stateOf(SurroundedKing x) {
         StringBuilder text = new StringBuilder();
@@ -36,10 +89,13 @@ final class Checks {
         text.append(x.surrounds()).append(' ').append(x.winner()).append(' ').append(x.countMade()).append(' ');
         text.append(x.repeats()).append(' ').append(x.worth()).append(' ').append(x.checksum()).append(' ');
         text.append(x.kept('g')).append(x.kept('h')).append(x.kept('=')).append(' ');
-        for (int i = 0; i < x.countMoves(); i++) {
+        int moves = x.countMoves();
+        for (int i = 0; i < moves; i++) {
             text.append(x.moveAt(i)).append(' ');
         }
-        for (int i = 0; i < x.countAgreeing(); i++) {
+        int agreeing = x.countAgreeing();
+        text.append(agreeing).append(' ');
+        for (int i = 0; i < agreeing; i += 1 + agreeing / 8) {
             text.append(x.agreeing(i)).append(' ');
         }
         for (int place = 0; has(x, place); place++) {
@@ -87,6 +143,16 @@ final class Checks {
         }
         x.begin(isHunters);
         return x;
+    }
+
+    /** Makes moves that are told as "16-9 9-16", and returns how many men are taken by the last of them. */
+    static int go(SurroundedKing x, String moves) {
+        int taken = 0;
+        for (String move : moves.trim().split(" +")) {
+            int dash = move.indexOf('-');
+            taken = x.move(Integer.parseInt(move.substring(0, dash)), Integer.parseInt(move.substring(dash + 1)));
+        }
+        return taken;
     }
 
     /** The men of a board, row by row. */

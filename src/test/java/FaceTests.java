@@ -66,7 +66,8 @@ public final class FaceTests {
         "MAX_VALUE", "MIN_VALUE", "\\bpackage\\b", "\\bstrictfp\\b", "\\bstatic\\s*\\{",
         "\\bimport (?!java\\.util\\.(Arrays|NoSuchElementException);)",
         "static (?!final)(\\w+(\\[\\])?) \\w+( =|;)",
-        "static final (byte|short|float|double) ",
+        "static final (byte|short|float|double) ", "\"\\s*\\+", "\\+\\s*\"", "\\bprotected\\b", "\\bsuper\\b",
+        "\\bgetMessage\\b", "\\bObject\\b", "\\bDouble\\b", "\\bnew (?!\\w+\\(|(long|int|short|byte)\\[)",
     };
 
     private static final Checks checks = new Checks();
@@ -74,7 +75,9 @@ public final class FaceTests {
     public static void main(String[] args) throws IOException {
         testMethods();
         testNothingElseIsSeen();
+        testSizes();
         testSource();
+        testMethodsAreShort();
         checks.end();
     }
 
@@ -123,6 +126,44 @@ public final class FaceTests {
         for (Method method : SurroundedKing.class.getDeclaredMethods()) {
             boolean isPrivate = Modifier.isPrivate(method.getModifiers());
             checks.same("own name " + method.getName(), isPrivate && names.contains(method.getName()), false);
+        }
+    }
+
+    /** At most some twelve classes, of some twenty fields beside constants, and seven parameters. */
+    private static void testSizes() {
+        List<Class<?>> classes = new ArrayList<>(Arrays.asList(SurroundedKing.class.getDeclaredClasses()));
+        classes.add(SurroundedKing.class);
+        checks.same("few classes", classes.size() <= 12, true);
+        for (Class<?> each : classes) {
+            int fields = 0;
+            for (java.lang.reflect.Field field : each.getDeclaredFields()) {
+                boolean isStatic = Modifier.isStatic(field.getModifiers());
+                fields += isStatic ? 0 : 1;
+                checks.same("static is final " + field, !isStatic || Modifier.isFinal(field.getModifiers()), true);
+            }
+            checks.same("few fields in " + each, fields <= 20, true);
+            for (Method method : each.getDeclaredMethods()) {
+                checks.same("few parameters of " + method, method.getParameterCount() <= 7, true);
+            }
+        }
+    }
+
+    /** A member begins at an indent of four or eight, with a bracket, and ends at the same indent. */
+    private static void testMethodsAreShort() throws IOException {
+        List<String> lines = Files.readAllLines(Path.of("src/main/java/SurroundedKing.java"));
+        int[] begun = new int[9];
+        for (int i = 0; i < lines.size(); i++) {
+            String line = lines.get(i);
+            int indent = line.length() - line.stripLeading().length();
+            if (indent == 4 || indent == 8) {
+                boolean isClass = line.contains(" class ");
+                if (!isClass && line.contains("(") && !line.stripLeading().startsWith("*")) {
+                    begun[indent] = i;
+                } else if (line.strip().equals("}") && begun[indent] > 0) {
+                    checks.same("short at line " + (i + 1), i - begun[indent] <= 60, true);
+                    begun[indent] = 0;
+                }
+            }
         }
     }
 

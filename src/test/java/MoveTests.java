@@ -233,7 +233,8 @@ public final class MoveTests {
         checks.same("the king and a guard at once", behind(two, 10, 12),
                 "2 --h--" + "-----" + "--h--" + "-----" + "--h--");
         SurroundedKing goes = Checks.boardOf("", false, "-----", "-h-h-", "--k--", "-----", "-----");
-        checks.same("who goes between two stays", behind(goes, 12, 7), "0 -----" + "-hkh-" + "-----" + "-----" + "-----");
+        checks.same("who goes between two stays", behind(goes, 12, 7),
+                "0 -----" + "-hkh-" + "-----" + "-----" + "-----");
         checks.same("the game goes on", goes.winner(), '-');
     }
 

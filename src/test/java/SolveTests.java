@@ -16,7 +16,22 @@ public final class SolveTests {
         for (int i = 0; i < positions && checks.isClean(); i++) {
             solveDrawn(random);
         }
+        solveAlongAGame(random);
         checks.end();
+    }
+
+    /** Many of the positions of one game, of each of which 368 to 400 can come. */
+    private static void solveAlongAGame(Random random) {
+        SurroundedKing x = Checks.boardOf("fl", true, "---", "hk-", "g--");
+        for (int i = 0; i < 25 && checks.isClean(); i++) {
+            int code = x.moveAt(random.nextInt(x.countMoves()));
+            x.move(code / 100, code % 100);
+            if (x.winner() != '-') {
+                x.undo();
+            } else {
+                solveOne(Checks.menOf(x), 68, x.isTurn());
+            }
+        }
     }
 
     /** Rules by which neither side wins soon, so that solutions are deep, and some positions are nobody's. */
