@@ -74,6 +74,7 @@ public final class FaceTests {
 
     public static void main(String[] args) throws IOException {
         testMethods();
+        testSections();
         testNothingElseIsSeen();
         testSizes();
         testSource();
@@ -90,6 +91,38 @@ public final class FaceTests {
         }
         checks.same("methods", new TreeSet<>(got).toString(), new TreeSet<>(Arrays.asList(FACE)).toString());
         checks.same("class", Modifier.toString(SurroundedKing.class.getModifiers()), "public final");
+    }
+
+    /** The calls stand in the document's order, behind its lines "boards, rules, men" and so on. */
+    private static void testSections() throws IOException {
+        List<String> due = new ArrayList<>();
+        for (String line : FACE) {
+            String name = line.replaceAll("^\\w+ (\\w+)\\(.*", "$1");
+            String section = sectionAheadOf(name);
+            if (!section.isEmpty()) {
+                due.add(section);
+            }
+            due.add(name);
+        }
+        List<String> got = new ArrayList<>();
+        Pattern shown = Pattern.compile("    (?:// (---- .*)|public (?!SurroundedKing).* (\\w+)\\(.*)");
+        for (String line : Files.readAllLines(Path.of("src/main/java/SurroundedKing.java"))) {
+            Matcher matcher = shown.matcher(line);
+            if (matcher.matches() && got.size() < due.size()) {
+                got.add(matcher.group(1) != null ? matcher.group(1) : matcher.group(2));
+            }
+        }
+        checks.same("calls behind their lines", got, due);
+    }
+
+    private static String sectionAheadOf(String name) {
+        return switch (name) {
+            case "board" -> "---- boards, rules, men";
+            case "canMove" -> "---- moves and ends";
+            case "worth" -> "---- searching and solving";
+            case "know" -> "---- gaps, finds, families";
+            default -> "";
+        };
     }
 
     private static String told(Method method) {
